@@ -139,6 +139,10 @@ public final class MixtureTest {
         Due.refusal("mixture(0)", IllegalStateException.class, () -> x.mixture(0));
         Due.answer("strict(0)", -1, () -> x.strict(0));
         Due.answer("the table stays", 2, () -> x.material(6, 0));
+        x.add(6, 201);
+        x.add(7, 1);
+        x.add(6, 201);
+        x.clear();
         Due.answer("no part is left", 0, () -> x.add(5, 1));
         is(x, 4, 0b10, 1, 2, 1, 0);
         Due.answer("steps begin anew", 2, () -> x.step(1));

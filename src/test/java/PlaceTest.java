@@ -87,6 +87,8 @@ public final class PlaceTest {
         // A number out of range is wrong at its last byte.
         wrong("m1\"a\"c3r10|0g");
         wrong("m1\"a\"c12|3r");
+        wrong("m1\"a\"c|;");
+        wrong("m1\"a\"c3r|;");
         wrong("zr|z");
         wrong("z|g");
     }
@@ -103,6 +105,9 @@ public final class PlaceTest {
         wrong("m1\"a\"c3r4ga c |b@");
         wrong("m1\"a\"c3r4gh|,");
         wrong("zr4gb|a");
+        wrong("zr4g|;");
+        wrong("m1\"a\"c3r4g|;");
+        wrong("m1\"a\"c3r4g|x1;");
     }
 
     private static void distances() {

@@ -9,6 +9,7 @@ public final class TapeTest {
         readsUpTheTape();
         keepsTheTableWhenWrong();
         takesThePlaceOfTheTable();
+        leavesNothingOfEarlierTexts();
         Due.end();
     }
 
@@ -101,5 +102,35 @@ public final class TapeTest {
         Due.answer("buildings stay", 1, () -> x.building(1, 1));
         Due.answer("an empty text is an empty table", 0, x::read);
         Due.refusal("no material", IllegalArgumentException.class, () -> x.material(2, 0));
+    }
+
+    /** Texts and tables that were there before show through nowhere, the last but one neither. */
+    private static void leavesNothingOfEarlierTexts() {
+        HazardTables x = new HazardTables();
+        String full = "m1\"a\"\"b\"\"c\"c3r4ga@1,2,3,4x123;zr2gb@5,6,7,8;";
+        String bare = ROW;
+        for (String text : new String[] {full, full, "q", full + "q", bare, "q", bare}) {
+            Due.put(x, text);
+            try {
+                x.read();
+            } catch (IllegalStateException e) {
+                Due.answer("place() of " + text, text.length() - 1, x::place);
+            }
+        }
+        Due.answer("no classes", 0, () -> x.material(1, 7));
+        Due.answer("one name", 1, () -> x.material(1, 8));
+        Due.refusal("no general row", IllegalArgumentException.class, () -> x.material(0, 1));
+        for (String longer : new String[] {"m1234\"abc\"c", "        ", "zzzzzzzz", ";;;;;;;;;;", "\"\"\"\"\"\"\"\""}) {
+            for (String text : new String[] {"m1", "m1 ", "m1\"a", "m1\"a\""}) {
+                Due.put(x, longer);
+                try {
+                    x.read();
+                } catch (IllegalStateException e) {
+                    Due.same("the longer text is wrong", false, x.place() == -1);
+                }
+                Due.refusal(text + " behind " + longer, IllegalStateException.class, () -> Due.read(x, text));
+                Due.answer("its length", text.length(), x::place);
+            }
+        }
     }
 }
