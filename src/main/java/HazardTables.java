@@ -653,7 +653,7 @@ public final class HazardTables {
             for (int i = 1; i <= length; i++) {
                 addLetter(table.nameLetter(row, name, i - 1), i);
             }
-            return edits[letters];
+            return letters >= 0 && letters < edits.length ? edits[letters] : 0;
         }
 
         private void addLetter(int letter, int lettersOfName) {
@@ -696,6 +696,10 @@ public final class HazardTables {
             return size >= MOST_PARTS;
         }
 
+        private int row(int part) {
+            return part >= 0 && part < MOST_PARTS ? rows[part] : NONE;
+        }
+
         /** How many parts the new one contradicts: only for a mixture that is not full. */
         int append(int number, int row, int amount, Table table) {
             if (isFull()) {
@@ -711,7 +715,7 @@ public final class HazardTables {
         int strictness(Table table) {
             int greatest = 0;
             for (int i = 0; i < size; i++) {
-                greatest = Math.max(greatest, table.cell(rows[i], Table.STRICTNESS));
+                greatest = Math.max(greatest, table.cell(row(i), Table.STRICTNESS));
             }
             return greatest;
         }
@@ -719,7 +723,7 @@ public final class HazardTables {
         int gear(Table table) {
             int bits = 0;
             for (int i = 0; i < size; i++) {
-                bits |= table.cell(rows[i], Table.GEAR);
+                bits |= table.cell(row(i), Table.GEAR);
             }
             return bits;
         }
@@ -727,9 +731,9 @@ public final class HazardTables {
         /** Of an empty mixture NONE, which no point is near enough for. */
         int distance(Table table, boolean day) {
             int greatest = NONE;
-            for (int i = 0; i < size; i++) {
+            for (int i = 0; i < size && i < MOST_PARTS; i++) {
                 int column = Table.DISTANCES + (large[i] ? 2 : 0) + (day ? 0 : 1);
-                greatest = Math.max(greatest, table.cell(rows[i], column));
+                greatest = Math.max(greatest, table.cell(row(i), column));
             }
             return greatest;
         }
@@ -745,7 +749,7 @@ public final class HazardTables {
         private int contradictedBefore(int part, Table table) {
             int contradicted = 0;
             for (int i = 0; i < part; i++) {
-                if (table.contradict(rows[i], rows[part])) {
+                if (table.contradict(row(i), row(part))) {
                     contradicted++;
                 }
             }
@@ -756,8 +760,8 @@ public final class HazardTables {
         int strictest(int i, Table table) {
             int strictness = strictness(table);
             int before = 0;
-            for (int part = 0; part < size; part++) {
-                if (table.cell(rows[part], Table.STRICTNESS) == strictness) {
+            for (int part = 0; part < size && part < MOST_PARTS; part++) {
+                if (table.cell(row(part), Table.STRICTNESS) == strictness) {
                     if (before == i) {
                         return numbers[part];
                     }
@@ -823,7 +827,7 @@ public final class HazardTables {
             freshOnes = 0;
             for (int i = 0; i < buildings && i < MOST_BUILDINGS; i++) {
                 boolean now = reaches(x, y, distance, buildingX[i], buildingY[i]);
-                if (now && !covers(buildingX[i], buildingY[i], distanceBefore)) {
+                if (now && !covers(buildingX[i], buildingY[i], distanceBefore) && freshOnes < MOST_BUILDINGS) {
                     fresh[freshOnes] = i;
                     freshOnes++;
                 }

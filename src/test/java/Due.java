@@ -10,7 +10,7 @@ final class Due {
         void run();
     }
 
-    private static int wrong = 0;
+    private static int wrongAnswers = 0;
 
     private Due() {
     }
@@ -45,14 +45,14 @@ final class Due {
 
     static void same(String call, Object want, Object got) {
         if (!want.equals(got)) {
-            wrong++;
+            wrongAnswers++;
             System.out.println(call + " answered " + got + ", due is " + want);
         }
     }
 
     static void end() {
-        if (wrong != 0) {
-            System.out.println(wrong + " answers are not as due");
+        if (wrongAnswers != 0) {
+            System.out.println(wrongAnswers + " answers are not as due");
             System.exit(1);
         }
     }
@@ -86,5 +86,21 @@ final class Due {
 
     static int say(HazardTables x, String word) {
         return x.say(packed(word), word.length());
+    }
+
+    /** The text up to the bar is right so far; the byte behind the bar is wrong. */
+    static void wrong(String barred) {
+        int bar = barred.indexOf('|');
+        String text = barred.substring(0, bar) + barred.substring(bar + 1);
+        HazardTables x = new HazardTables();
+        refusal(text, IllegalStateException.class, () -> read(x, text));
+        answer("place() of " + text, bar, x::place);
+    }
+
+    static HazardTables right(int materials, String text) {
+        HazardTables x = new HazardTables();
+        answer(text, materials, () -> read(x, text));
+        answer("place() of " + text, -1, x::place);
+        return x;
     }
 }

@@ -2,9 +2,11 @@ import java.util.Random;
 
 /** All promises: long runs of calls, the same on each run of the test, on an object and on a plain model. */
 public final class ModelTest {
-    private static final int RUNS = 300;
-    private static final int CALLS = 512;
+    private static final int RUNS = 1000;
+    private static final int MOST_CALLS = 512;
     private static final int TEXTS = 4000;
+    /** A text takes up to 52 calls, and an object is used for 512. */
+    private static final int TEXTS_AN_OBJECT = 9;
     private static final int[] EDGES = {-1, 0, 1, 2, 3, 4, 5, 6, 7, 8, 9, 10, 200, 201, 999, 1000, 9999, 10000, 10001,
         -10000, -10001, 100000, 100001, Integer.MIN_VALUE, Integer.MAX_VALUE};
     private static final String SIGNS = "mzcrgx@,;\" 0123456789abchipq\t\u00e9";
@@ -12,6 +14,7 @@ public final class ModelTest {
     private final Random random;
     private HazardTables x;
     private Model model;
+    private int calls;
 
     private ModelTest(long seed) {
         random = new Random(seed);
@@ -23,7 +26,7 @@ public final class ModelTest {
         new ModelTest(1).compareTexts();
         for (int run = 0; run < RUNS; run++) {
             ModelTest test = new ModelTest(1000 + run);
-            for (int call = 0; call < CALLS; call++) {
+            while (test.calls < MOST_CALLS) {
                 test.compareCall();
             }
         }
@@ -33,6 +36,9 @@ public final class ModelTest {
     private void compareTexts() {
         for (int i = 0; i < TEXTS; i++) {
             String text = random.nextInt(4) == 0 ? text() : spoiled(text());
+            if (i % TEXTS_AN_OBJECT == 0) {
+                x = new HazardTables();
+            }
             int place = Model.wrongPlace(text);
             Due.put(x, text);
             Object due = place == -1 ? "read" : "throws.IllegalStateException";
@@ -137,7 +143,12 @@ public final class ModelTest {
         return below(12) == 0 ? edge() : usual;
     }
 
+    /** A call on both, while the object may still be called. */
     private void same(String call, Due.Call due, Due.Call made) {
+        if (calls >= MOST_CALLS) {
+            return;
+        }
+        calls++;
         Object want;
         try {
             want = due.call();
@@ -187,8 +198,13 @@ public final class ModelTest {
             }
             case 14 -> {
                 if (below(3) == 0) {
-                    model.clear();
-                    x.clear();
+                    same("clear()", () -> {
+                        model.clear();
+                        return "done";
+                    }, () -> {
+                        x.clear();
+                        return "done";
+                    });
                 }
             }
             case 15, 16, 17 -> same("mixture(" + small + ")", () -> model.mixture(small), () -> x.mixture(small));

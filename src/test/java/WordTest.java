@@ -5,6 +5,7 @@ public final class WordTest {
     public static void main(String[] args) {
         nearest();
         distances();
+        everyName();
         refusals();
         latestWord();
         Due.end();
@@ -56,6 +57,34 @@ public final class WordTest {
             Due.answer(word + " from " + name + " against " + d, distance < d ? 2 : 1, () -> Due.say(lower, word));
             Due.answer(word + " from " + name + " against " + d, distance <= d ? 1 : 2, () -> Due.say(higher, word));
         }
+    }
+
+    /** Each of three names of each of twelve materials is known, letter by letter. */
+    private static void everyName() {
+        StringBuilder text = new StringBuilder();
+        String[] names = new String[36];
+        for (int i = 0; i < names.length; i++) {
+            char letter = (char) ('a' + i % 12);
+            names[i] = letter + "zyx".substring(i / 12, i / 12 + 1);
+        }
+        for (int row = 0; row < 12; row++) {
+            text.append("m").append(90 - row);
+            for (int name = 0; name < 3; name++) {
+                text.append('"').append(names[3 * row + name]).append('"');
+            }
+            text.append("c1r1ga@1,1,1,1;");
+        }
+        HazardTables x = Due.with(text.toString());
+        for (int i = 0; i < names.length; i++) {
+            String word = names[i];
+            Due.answer("say " + word, 90 - i / 3, () -> Due.say(x, word));
+        }
+        String ten = "abcdefghij";
+        HazardTables longest = Due.with("m1\"" + ten + "\"\"klmnopqrst\"\"b" + ten.substring(1) + "\"" + DUE
+                + "m2\"" + ten.substring(0, 9) + "z\"" + DUE);
+        order(longest, "cdefghij", 1, 2);
+        order(longest, "efghiz", 2, 1);
+        order(longest, "bbcdefgh", 1, 2);
     }
 
     private static void refusals() {

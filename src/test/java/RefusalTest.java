@@ -1,0 +1,363 @@
+/**
+ * Every refusal of the document: the call throws what the document names, and behind it the object
+ * looks as one for which it was never made, but for what the document says (read() uses up the tape).
+ */
+public final class RefusalTest {
+    private static final Class<IllegalArgumentException> UNKNOWN = IllegalArgumentException.class;
+    private static final Class<IndexOutOfBoundsException> RANGE = IndexOutOfBoundsException.class;
+    private static final Class<IllegalStateException> STATE = IllegalStateException.class;
+    private static final Class<UnsupportedOperationException> ROOM = UnsupportedOperationException.class;
+
+    private static final int[] EXTREMES = {Integer.MIN_VALUE, Integer.MAX_VALUE};
+    private static final String FIRST = "m1\"ab\"\"c\"c3r4gab@100,200,300,400x13;";
+    private static final String SECOND = "m2\"b\"c1r6gc@10,20,30,40;";
+    private static final String GENERAL = "zr5gh@100,200,300,400;";
+    private static final String ON_THE_TAPE = "m77\"q\"c3r4ga@9,2,3,4";
+
+    /** How an object comes to be that refuses a call; but for the new one, there is a text on its tape. */
+    private enum State {
+        /** As it was made. */
+        NEW,
+        /** All is under way: a word, a mixture with step 2 next, buildings, a fresh one, marks; a wrong text before. */
+        USED,
+        /** The same, with an empty mixture. */
+        CLEARED,
+        /** The same, behind a text with a general row alone, so without a word; a mixture again. */
+        GENERAL_ONLY,
+        /** The same as USED, with room for one byte. */
+        LONG_TAPE,
+        /** The same as USED, without a general row, and with no room for a part. */
+        EIGHT_PARTS,
+        /** The same as USED, with no room for a building. */
+        FORTY_BUILDINGS,
+        /** No general row; as much of everything as there may be. */
+        FULL
+    }
+
+    private interface On {
+        Object call(HazardTables x);
+    }
+
+    private interface DeedOn {
+        void run(HazardTables x);
+    }
+
+    public static void main(String[] args) {
+        statesAreAsTold();
+        sign();
+        read();
+        material();
+        say();
+        indices();
+        add();
+        mixture();
+        building();
+        wind();
+        in();
+        step();
+        marks();
+        Due.end();
+    }
+
+    private static HazardTables made(State state) {
+        HazardTables x = madeWithoutTape(state);
+        if (state == State.FULL || state == State.LONG_TAPE) {
+            Due.put(x, " ".repeat(399 - ON_THE_TAPE.length()) + ON_THE_TAPE);
+        } else if (state != State.NEW) {
+            Due.put(x, ON_THE_TAPE);
+        }
+        return x;
+    }
+
+    private static HazardTables madeWithoutTape(State state) {
+        HazardTables x = new HazardTables();
+        if (state == State.FULL) {
+            fill(x);
+        } else if (state != State.NEW) {
+            use(x, state == State.EIGHT_PARTS ? FIRST + SECOND : FIRST + SECOND + GENERAL);
+        }
+        if (state == State.CLEARED) {
+            x.clear();
+        } else if (state == State.GENERAL_ONLY) {
+            Due.read(x, GENERAL);
+            x.add(3, 201);
+            x.step(1);
+        } else if (state == State.EIGHT_PARTS) {
+            for (int part = 3; part <= 8; part++) {
+                x.add(1, part);
+            }
+        } else if (state == State.FORTY_BUILDINGS) {
+            for (int number = 3; number < 40; number++) {
+                x.building(number, 5);
+            }
+        }
+        return x;
+    }
+
+    private static void use(HazardTables x, String text) {
+        Due.read(x, text);
+        Due.same("a wrong text before", false, reads(x, "m1q"));
+        Due.say(x, "b");
+        x.add(1, 200);
+        x.add(2, 201);
+        x.step(1);
+        x.building(0, 150);
+        x.building(250, 0);
+        x.building(0, 0);
+        x.wind(0, 1, false);
+        x.mark(2, 7);
+    }
+
+    private static void fill(HazardTables x) {
+        StringBuilder twelve = new StringBuilder();
+        for (int number = 1; number <= 12; number++) {
+            twelve.append("m").append(number).append("\"ab\"c3r5ga@100,200,300,").append(number).append("x3;");
+        }
+        Due.read(x, twelve.toString());
+        Due.say(x, "abcdefgh");
+        for (int part = 1; part <= 8; part++) {
+            x.add(part, 100000);
+        }
+        for (int n = 1; n <= 5; n++) {
+            x.step(n);
+        }
+        for (int number = 0; number < 40; number++) {
+            x.building(0, 300);
+        }
+        x.wind(0, 100, true);
+        x.mark(0, Integer.MAX_VALUE);
+        x.mark(4, 0);
+    }
+
+    private static boolean reads(HazardTables x, String text) {
+        Due.put(x, text);
+        try {
+            x.read();
+            return true;
+        } catch (IllegalStateException e) {
+            return false;
+        }
+    }
+
+    /** The states would be of no use if they were not what their names say. */
+    private static void statesAreAsTold() {
+        HazardTables used = made(State.USED);
+        Due.answer("place of USED", 2, used::place);
+        Due.answer("parts of USED", 2, () -> used.mixture(4));
+        Due.answer("the fresh one of USED", 0, () -> used.fresh(0));
+        Due.answer("the step of USED", 3, () -> used.step(2));
+        Due.answer("the word of USED", 2, () -> used.near(0));
+        Due.answer("the next building of USED", 3, () -> used.building(0, 0));
+        HazardTables cleared = made(State.CLEARED);
+        Due.answer("the parts of CLEARED", -1, () -> cleared.strict(0));
+        Due.answer("the fresh one of CLEARED", 0, () -> cleared.fresh(0));
+        HazardTables general = made(State.GENERAL_ONLY);
+        Due.answer("the word of GENERAL_ONLY", -1, () -> general.near(0));
+        Due.answer("parts of GENERAL_ONLY", 1, () -> general.mixture(4));
+        Due.answer("the step of GENERAL_ONLY", 3, () -> general.step(2));
+        Due.answer("the tape of LONG_TAPE", 400, () -> made(State.LONG_TAPE).sign(';', 1));
+        Due.answer("parts of EIGHT_PARTS", 8, () -> made(State.EIGHT_PARTS).mixture(4));
+        Due.answer("the tape of EIGHT_PARTS", ON_THE_TAPE.length() + 1, () -> made(State.EIGHT_PARTS).sign(';', 1));
+        Due.answer("the tape of FORTY_BUILDINGS", ON_THE_TAPE.length() + 1, () -> made(State.FORTY_BUILDINGS).sign(';', 1));
+        HazardTables full = made(State.FULL);
+        Due.answer("parts of FULL", 8, () -> full.mixture(4));
+        Due.answer("pairs of FULL", 28, () -> full.mixture(5));
+        Due.answer("the last fresh one of FULL", 39, () -> full.fresh(39));
+        Due.answer("the last near one of FULL", 12, () -> full.near(11));
+        Due.answer("the tape of FULL", 400, () -> full.sign(';', 1));
+        Due.answer("its text", 1, full::read);
+    }
+
+    private static void refused(State state, String call, Class<? extends RuntimeException> want, On made) {
+        HazardTables x = made(state);
+        Due.refusal(call + " of " + state, want, () -> made.call(x));
+        Due.answer("place() behind " + call + " of " + state, made(state).place(), x::place);
+        for (Look.Taker taker : Look.all()) {
+            HazardTables looked = made(state);
+            Due.refusal(call + " of " + state, want, () -> made.call(looked));
+            Due.same("a look behind " + call + " of " + state, Look.at(made(state), taker), Look.at(looked, taker));
+        }
+    }
+
+    private static void refusedDeed(State state, String call, Class<? extends RuntimeException> want, DeedOn deed) {
+        refused(state, call, want, x -> {
+            deed.run(x);
+            return "done";
+        });
+    }
+
+    private static void sign() {
+        for (State state : State.values()) {
+            refused(state, "sign(q, 0)", RANGE, x -> x.sign('q', 0));
+            refused(state, "sign(q, 9)", RANGE, x -> x.sign('q', 9));
+            refused(state, "sign(q, -1)", RANGE, x -> x.sign('q', -1));
+            for (int n : EXTREMES) {
+                refused(state, "sign(q, " + n + ")", RANGE, x -> x.sign('q', n));
+            }
+        }
+        for (int n = 2; n <= 8; n++) {
+            int bytes = n;
+            refused(State.FULL, "sign(qq.., " + n + ")", ROOM, x -> x.sign(Due.packed("qqqqqqqq"), bytes));
+            refused(State.LONG_TAPE, "sign(qq.., " + n + ")", ROOM, x -> x.sign(Due.packed("qqqqqqqq"), bytes));
+        }
+    }
+
+    /** Behind a wrong text all is as it was, but for the tape, which is used up, and place(). */
+    private static void read() {
+        String[] barred = {"|q", "m|", "m|0", FIRST + "m|1", FIRST + GENERAL + "|z",
+            "m2\"b\"c9r9gh@1,1,1,1;" + GENERAL + "m3\"b\"c9r9gh@1,1,1,1x12|2", "m1\"zz\"\"zz\"\"zz\"c9r9gh@1,1,1,1|"};
+        for (State state : State.values()) {
+            for (String text : barred) {
+                for (Look.Taker taker : Look.all()) {
+                    HazardTables x = madeWithoutTape(state);
+                    Due.put(x, text.replace("|", ""));
+                    Due.refusal("read() of " + text, STATE, x::read);
+                    Due.answer("place() of " + text, text.indexOf('|'), x::place);
+                    Due.same("a look behind read() of " + text + " of " + state,
+                            Look.at(madeWithoutTape(state), taker), Look.at(x, taker));
+                }
+            }
+        }
+    }
+
+    private static void material() {
+        for (State state : State.values()) {
+            for (int number : new int[] {-1, 13, 10000, Integer.MIN_VALUE, Integer.MAX_VALUE}) {
+                refused(state, "material(" + number + ", 0)", UNKNOWN, x -> x.material(number, 0));
+            }
+            for (int what : new int[] {-1, 9, Integer.MIN_VALUE, Integer.MAX_VALUE}) {
+                refused(state, "material(1, " + what + ")", UNKNOWN, x -> x.material(1, what));
+                refused(state, "material(0, " + what + ")", UNKNOWN, x -> x.material(0, what));
+            }
+        }
+        for (State state : new State[] {State.NEW, State.EIGHT_PARTS, State.FULL}) {
+            refused(state, "material(0, 0)", UNKNOWN, x -> x.material(0, 0));
+        }
+    }
+
+    private static void say() {
+        for (State state : State.values()) {
+            for (int n : new int[] {0, 9, -1, Integer.MIN_VALUE, Integer.MAX_VALUE}) {
+                refused(state, "say(c.., " + n + ")", RANGE, x -> x.say(Due.packed("cccccccc"), n));
+            }
+            for (String word : new String[] {"`", "{", "C", "c c", "cccccccC", "Cccccccc"}) {
+                refused(state, "say " + word, RANGE, x -> Due.say(x, word));
+            }
+        }
+        refused(State.NEW, "say c", STATE, x -> Due.say(x, "c"));
+        refused(State.GENERAL_ONLY, "say c", STATE, x -> Due.say(x, "c"));
+    }
+
+    private static void indices() {
+        for (State state : State.values()) {
+            for (int i : new int[] {-1, Integer.MIN_VALUE}) {
+                refused(state, "near(" + i + ")", RANGE, x -> x.near(i));
+                refused(state, "strict(" + i + ")", RANGE, x -> x.strict(i));
+                refused(state, "fresh(" + i + ")", RANGE, x -> x.fresh(i));
+            }
+        }
+    }
+
+    private static void add() {
+        for (int number : new int[] {1, 0, 10000}) {
+            refused(State.NEW, "add(" + number + ", 1)", UNKNOWN, x -> x.add(number, 1));
+        }
+        for (State state : new State[] {State.EIGHT_PARTS, State.FULL}) {
+            for (int number : new int[] {13, 9999, 10000, 0, -1}) {
+                refused(state, "add(" + number + ", 1)", UNKNOWN, x -> x.add(number, 1));
+            }
+            refused(state, "add(1, 1)", ROOM, x -> x.add(1, 1));
+            refused(state, "add(2, 100000)", ROOM, x -> x.add(2, 100000));
+        }
+        for (State state : new State[] {State.USED, State.CLEARED, State.GENERAL_ONLY}) {
+            for (int number : new int[] {0, -1, 10000, Integer.MIN_VALUE, Integer.MAX_VALUE}) {
+                refused(state, "add(" + number + ", 1)", RANGE, x -> x.add(number, 1));
+            }
+        }
+        for (State state : State.values()) {
+            for (int amount : new int[] {0, -1, 100001, Integer.MIN_VALUE, Integer.MAX_VALUE}) {
+                refused(state, "add(1, " + amount + ")", state == State.NEW ? UNKNOWN : RANGE, x -> x.add(1, amount));
+            }
+        }
+    }
+
+    private static void mixture() {
+        for (State state : State.values()) {
+            for (int what : new int[] {-1, 6, Integer.MIN_VALUE, Integer.MAX_VALUE}) {
+                refused(state, "mixture(" + what + ")", UNKNOWN, x -> x.mixture(what));
+            }
+        }
+        for (State state : new State[] {State.NEW, State.CLEARED}) {
+            for (int what = 0; what <= 5; what++) {
+                int w = what;
+                refused(state, "mixture(" + w + ")", STATE, x -> x.mixture(w));
+            }
+        }
+    }
+
+    private static void building() {
+        for (State state : State.values()) {
+            for (int v : new int[] {-10001, 10001, Integer.MIN_VALUE, Integer.MAX_VALUE}) {
+                refused(state, "building(" + v + ", 0)", RANGE, x -> x.building(v, 0));
+                refused(state, "building(0, " + v + ")", RANGE, x -> x.building(0, v));
+            }
+        }
+        for (State state : new State[] {State.FORTY_BUILDINGS, State.FULL}) {
+            refused(state, "building(0, 0)", ROOM, x -> x.building(0, 0));
+            refused(state, "building(0, 5)", ROOM, x -> x.building(0, 5));
+        }
+    }
+
+    private static void wind() {
+        for (State state : State.values()) {
+            for (boolean day : new boolean[] {true, false}) {
+                for (int v : new int[] {-101, 101, Integer.MIN_VALUE, Integer.MAX_VALUE}) {
+                    refused(state, "wind(" + v + ", 1, " + day + ")", RANGE, x -> x.wind(v, 1, day));
+                    refused(state, "wind(-1, " + v + ", " + day + ")", RANGE, x -> x.wind(-1, v, day));
+                }
+                refused(state, "wind(0, 0, " + day + ")", RANGE, x -> x.wind(0, 0, day));
+            }
+        }
+    }
+
+    private static void in() {
+        for (State state : State.values()) {
+            for (int v : new int[] {-10001, 10001, Integer.MIN_VALUE, Integer.MAX_VALUE}) {
+                refused(state, "in(" + v + ", 0)", RANGE, x -> x.in(v, 0));
+                refused(state, "in(0, " + v + ")", RANGE, x -> x.in(0, v));
+            }
+        }
+        refused(State.NEW, "in(0, 0)", STATE, x -> x.in(0, 0));
+        refused(State.CLEARED, "in(0, 0)", STATE, x -> x.in(0, 0));
+    }
+
+    private static void step() {
+        for (State state : State.values()) {
+            for (int n : new int[] {0, 7, -1, Integer.MIN_VALUE, Integer.MAX_VALUE}) {
+                refused(state, "step(" + n + ")", RANGE, x -> x.step(n));
+            }
+            int next = state == State.FULL ? 6 : state == State.NEW || state == State.CLEARED ? 0 : 2;
+            for (int n = 1; n <= 6; n++) {
+                int step = n;
+                if (step != next) {
+                    refused(state, "step(" + step + ")", STATE, x -> x.step(step));
+                }
+            }
+        }
+    }
+
+    private static void marks() {
+        for (State state : State.values()) {
+            for (int kind : new int[] {-1, 5, Integer.MIN_VALUE, Integer.MAX_VALUE}) {
+                refusedDeed(state, "mark(" + kind + ", 8)", UNKNOWN, x -> x.mark(kind, 8));
+                refusedDeed(state, "mark(" + kind + ", -1)", UNKNOWN, x -> x.mark(kind, -1));
+                refused(state, "over(" + kind + ", 8)", UNKNOWN, x -> x.over(kind, 8));
+            }
+            for (int kind = 0; kind <= 4; kind++) {
+                int k = kind;
+                refusedDeed(state, "mark(" + k + ", -1)", RANGE, x -> x.mark(k, -1));
+                refusedDeed(state, "mark(" + k + ", lowest)", RANGE, x -> x.mark(k, Integer.MIN_VALUE));
+            }
+        }
+    }
+}
