@@ -532,8 +532,8 @@ public final class HazardTables {
         }
 
         /**
-         * A number from low to high. A digit that no number can have there (behind a 0 in front, or
-         * behind four digits) is wrong itself, a number out of range at its last digit.
+         * A number from low to high; out of range it is wrong at its last digit. A digit behind a 0, or
+         * behind four digits, is left to what has to follow: that finds it wrong in its place.
          */
         private boolean readNumber(int low, int high) {
             int first = peek();
@@ -545,9 +545,6 @@ public final class HazardTables {
             for (int digits = 0; digits < mostDigits && isDigit(byteHere()); digits++) {
                 value = value * 10 + byteHere() - '0';
                 at++;
-            }
-            if (isDigit(byteHere())) {
-                return wrong(at);
             }
             return value <= high || wrong(at - 1);
         }

@@ -20,11 +20,11 @@ final class Model {
     private static final String ANY_ROW = " *(?:" + MATERIAL_HEAD + DUE + OTHERS + "|z" + DUE + ") *;";
     private static final Pattern ROW = Pattern.compile(ANY_ROW);
     private static final Pattern TEXT = Pattern.compile("(?:" + ANY_ROW + ")* *");
-    private static final Pattern NUMBER = Pattern.compile("(?:^|;) *m *([1-9][0-9]{0,3})(?![0-9])");
+    private static final Pattern NUMBER = Pattern.compile("(?:^|;) *m *([1-9][0-9]{0,3})");
     private static final Pattern START_OF_MATERIAL = Pattern.compile("(?:^|;) *m");
     private static final Pattern START_OF_GENERAL = Pattern.compile("(?:^|;) *z");
-    /** A class or strictness of several digits is wrong at its last one. */
-    private static final Pattern LONG_DIGIT = Pattern.compile("[cr] *([1-9][0-9]{1,3})(?![0-9])");
+    /** A class or strictness of several digits is wrong at its last one, at most the fourth. */
+    private static final Pattern LONG_DIGIT = Pattern.compile("[cr] *([1-9][0-9]{1,3})");
 
     record Row(int number, int kind, int strictness, int gear, int[] distances, int others, List<String> names) {
     }

@@ -71,6 +71,8 @@ public final class PlaceTest {
         // A number out of range is wrong at its last byte.
         Due.wrong("m1\"a\"c3r10|0g");
         Due.wrong("m1\"a\"c12|3r");
+        Due.wrong("m1\"a\"c3r123|4g");
+        Due.wrong("m1\"a\"c3r123|45g");
         Due.wrong("m1\"a\"c|;");
         Due.wrong("m1\"a\"c3r|;");
         Due.wrong("zr|z");
@@ -136,7 +138,8 @@ public final class PlaceTest {
         Due.wrong(ROW + ";m|1\"b\"");
         Due.wrong(ROW + ";m  |1 \"b\"");
         Due.wrong("m123" + other + ";m12|3;");
-        Due.wrong("m1234" + other + ";m1234|5");
+        // Behind its fourth digit no number goes on, so nothing that follows can help.
+        Due.wrong("m1234" + other + ";m123|45");
         Due.right(2, ROW + ";m11" + other + ";");
         Due.right(2, "m11" + other + ";m1" + other + ";");
         Due.right(2, ROW + ";m2\"a\"\"a\"c3" + DUE + ";");
