@@ -9,30 +9,6 @@ public final class RefusalTest {
     private static final Class<UnsupportedOperationException> ROOM = UnsupportedOperationException.class;
 
     private static final int[] EXTREMES = {Integer.MIN_VALUE, Integer.MAX_VALUE};
-    private static final String FIRST = "m1\"ab\"\"c\"c3r4gab@100,200,300,400x13;";
-    private static final String SECOND = "m2\"b\"c1r6gc@10,20,30,40;";
-    private static final String GENERAL = "zr5gh@100,200,300,400;";
-    private static final String ON_THE_TAPE = "m77\"q\"c3r4ga@9,2,3,4";
-
-    /** How an object comes to be that refuses a call; but for the new one, there is a text on its tape. */
-    private enum State {
-        /** As it was made. */
-        NEW,
-        /** All is under way: a word, a mixture with step 2 next, buildings, a fresh one, marks; a wrong text before. */
-        USED,
-        /** The same, with an empty mixture. */
-        CLEARED,
-        /** The same, behind a text with a general row alone, so without a word; a mixture again. */
-        GENERAL_ONLY,
-        /** The same as USED, with room for one byte. */
-        LONG_TAPE,
-        /** The same as USED, without a general row, and with no room for a part. */
-        EIGHT_PARTS,
-        /** The same as USED, with no room for a building. */
-        FORTY_BUILDINGS,
-        /** No general row; as much of everything as there may be. */
-        FULL
-    }
 
     private interface On {
         Object call(HazardTables x);
@@ -43,7 +19,6 @@ public final class RefusalTest {
     }
 
     public static void main(String[] args) {
-        statesAreAsTold();
         sign();
         read();
         material();
@@ -59,123 +34,11 @@ public final class RefusalTest {
         Due.end();
     }
 
-    private static HazardTables made(State state) {
-        HazardTables x = madeWithoutTape(state);
-        if (state == State.FULL || state == State.LONG_TAPE) {
-            Due.put(x, " ".repeat(399 - ON_THE_TAPE.length()) + ON_THE_TAPE);
-        } else if (state != State.NEW) {
-            Due.put(x, ON_THE_TAPE);
-        }
-        return x;
-    }
-
-    private static HazardTables madeWithoutTape(State state) {
-        HazardTables x = new HazardTables();
-        if (state == State.FULL) {
-            fill(x);
-        } else if (state != State.NEW) {
-            use(x, state == State.EIGHT_PARTS ? FIRST + SECOND : FIRST + SECOND + GENERAL);
-        }
-        if (state == State.CLEARED) {
-            x.clear();
-        } else if (state == State.GENERAL_ONLY) {
-            Due.read(x, GENERAL);
-            x.add(3, 201);
-            x.step(1);
-        } else if (state == State.EIGHT_PARTS) {
-            for (int part = 3; part <= 8; part++) {
-                x.add(1, part);
-            }
-        } else if (state == State.FORTY_BUILDINGS) {
-            for (int number = 3; number < 40; number++) {
-                x.building(number, 5);
-            }
-        }
-        return x;
-    }
-
-    private static void use(HazardTables x, String text) {
-        Due.read(x, text);
-        Due.same("a wrong text before", false, reads(x, "m1q"));
-        Due.say(x, "b");
-        x.add(1, 200);
-        x.add(2, 201);
-        x.step(1);
-        x.building(0, 150);
-        x.building(250, 0);
-        x.building(0, 0);
-        x.wind(0, 1, false);
-        x.mark(2, 7);
-    }
-
-    private static void fill(HazardTables x) {
-        StringBuilder twelve = new StringBuilder();
-        for (int number = 1; number <= 12; number++) {
-            twelve.append("m").append(number).append("\"ab\"c3r5ga@100,200,300,").append(number).append("x3;");
-        }
-        Due.read(x, twelve.toString());
-        Due.say(x, "abcdefgh");
-        for (int part = 1; part <= 8; part++) {
-            x.add(part, 100000);
-        }
-        for (int n = 1; n <= 5; n++) {
-            x.step(n);
-        }
-        for (int number = 0; number < 40; number++) {
-            x.building(0, 300);
-        }
-        x.wind(0, 100, true);
-        x.mark(0, Integer.MAX_VALUE);
-        x.mark(4, 0);
-    }
-
-    private static boolean reads(HazardTables x, String text) {
-        Due.put(x, text);
-        try {
-            x.read();
-            return true;
-        } catch (IllegalStateException e) {
-            return false;
-        }
-    }
-
-    /** The states would be of no use if they were not what their names say. */
-    private static void statesAreAsTold() {
-        HazardTables used = made(State.USED);
-        Due.answer("place of USED", 2, used::place);
-        Due.answer("parts of USED", 2, () -> used.mixture(4));
-        Due.answer("the fresh one of USED", 0, () -> used.fresh(0));
-        Due.answer("the step of USED", 3, () -> used.step(2));
-        Due.answer("the word of USED", 2, () -> used.near(0));
-        Due.answer("the next building of USED", 3, () -> used.building(0, 0));
-        HazardTables cleared = made(State.CLEARED);
-        Due.answer("the parts of CLEARED", -1, () -> cleared.strict(0));
-        Due.answer("the fresh one of CLEARED", 0, () -> cleared.fresh(0));
-        HazardTables general = made(State.GENERAL_ONLY);
-        Due.answer("the word of GENERAL_ONLY", -1, () -> general.near(0));
-        Due.answer("parts of GENERAL_ONLY", 1, () -> general.mixture(4));
-        Due.answer("the step of GENERAL_ONLY", 3, () -> general.step(2));
-        Due.answer("the tape of LONG_TAPE", 400, () -> made(State.LONG_TAPE).sign(';', 1));
-        Due.answer("parts of EIGHT_PARTS", 8, () -> made(State.EIGHT_PARTS).mixture(4));
-        Due.answer("the tape of EIGHT_PARTS", ON_THE_TAPE.length() + 1, () -> made(State.EIGHT_PARTS).sign(';', 1));
-        Due.answer("the tape of FORTY_BUILDINGS", ON_THE_TAPE.length() + 1, () -> made(State.FORTY_BUILDINGS).sign(';', 1));
-        HazardTables full = made(State.FULL);
-        Due.answer("parts of FULL", 8, () -> full.mixture(4));
-        Due.answer("pairs of FULL", 28, () -> full.mixture(5));
-        Due.answer("the last fresh one of FULL", 39, () -> full.fresh(39));
-        Due.answer("the last near one of FULL", 12, () -> full.near(11));
-        Due.answer("the tape of FULL", 400, () -> full.sign(';', 1));
-        Due.answer("its text", 1, full::read);
-    }
-
     private static void refused(State state, String call, Class<? extends RuntimeException> want, On made) {
-        HazardTables x = made(state);
-        Due.refusal(call + " of " + state, want, () -> made.call(x));
-        Due.answer("place() behind " + call + " of " + state, made(state).place(), x::place);
-        for (Look.Taker taker : Look.all()) {
-            HazardTables looked = made(state);
-            Due.refusal(call + " of " + state, want, () -> made.call(looked));
-            Due.same("a look behind " + call + " of " + state, Look.at(made(state), taker), Look.at(looked, taker));
+        for (Look.Taker taker : Look.all().values()) {
+            HazardTables x = state.made();
+            Due.refusal(call + " of " + state, want, () -> made.call(x));
+            Due.same("a look behind " + call + " of " + state, Look.at(state.made(), taker), Look.at(x, taker));
         }
     }
 
@@ -204,17 +67,17 @@ public final class RefusalTest {
 
     /** Behind a wrong text all is as it was, but for the tape, which is used up, and place(). */
     private static void read() {
-        String[] barred = {"|q", "m|", "m|0", FIRST + "m|1", FIRST + GENERAL + "|z",
-            "m2\"b\"c9r9gh@1,1,1,1;" + GENERAL + "m3\"b\"c9r9gh@1,1,1,1x12|2", "m1\"zz\"\"zz\"\"zz\"c9r9gh@1,1,1,1|"};
+        String[] barred = {"|q", "m|", "m|0", State.FIRST + "m|1", State.FIRST + State.GENERAL + "|z",
+            "m2\"b\"c9r9gh@1,1,1,1;" + State.GENERAL + "m3\"b\"c9r9gh@1,1,1,1x12|2", "m1\"zz\"\"zz\"\"zz\"c9r9gh@1,1,1,1|"};
         for (State state : State.values()) {
             for (String text : barred) {
-                for (Look.Taker taker : Look.all()) {
-                    HazardTables x = madeWithoutTape(state);
+                for (Look.Taker taker : Look.allButPlace().values()) {
+                    HazardTables x = state.madeWithoutTape();
                     Due.put(x, text.replace("|", ""));
                     Due.refusal("read() of " + text, STATE, x::read);
                     Due.answer("place() of " + text, text.indexOf('|'), x::place);
                     Due.same("a look behind read() of " + text + " of " + state,
-                            Look.at(madeWithoutTape(state), taker), Look.at(x, taker));
+                            Look.at(state.madeWithoutTape(), taker), Look.at(x, taker));
                 }
             }
         }
